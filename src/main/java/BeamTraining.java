@@ -201,7 +201,7 @@ public final class BeamTraining {
         }
         save();
         now.refineBeam(station);
-        return now.station(station).beam;
+        return now.station(station).present;
     }
 
     public int survey(int separation) {
@@ -221,8 +221,8 @@ public final class BeamTraining {
             return BAD_VALUE;
         }
         save();
-        int previous = now.station(station).beam;
-        now.station(station).beam = beam;
+        int previous = now.station(station).present;
+        now.station(station).present = beam;
         return previous;
     }
 
@@ -253,7 +253,7 @@ public final class BeamTraining {
     }
 
     public int beam(int station) {
-        return isStation(station) ? now.station(station).beam : BAD_INDEX;
+        return isStation(station) ? now.station(station).present : BAD_INDEX;
     }
 
     public int direction(int station, int beam) {
@@ -326,8 +326,8 @@ public final class BeamTraining {
     }
 
     public int shortfall() {
-        int beam0 = now.first.beam;
-        int beam1 = now.second.beam;
+        int beam0 = now.first.present;
+        int beam1 = now.second.present;
         int best = now.bestWidePair();
         if (best == NONE || beam0 == NONE || beam1 == NONE) {
             return NONE;
@@ -440,11 +440,11 @@ public final class BeamTraining {
         }
 
         static int turn(int direction, int by) {
-            return direction + by & 63;
+            return (direction + by) & 63;
         }
 
         static int angle(int one, int other) {
-            int difference = one - other & 63;
+            int difference = (one - other) & 63;
             return difference > 32 ? 64 - difference : difference;
         }
 
@@ -500,7 +500,7 @@ public final class BeamTraining {
         int sectors;
         int orientation;
         int power;
-        int beam;
+        int present;
         final int[] table = new int[MAX_SECTORS];
 
         Station() {
@@ -511,7 +511,7 @@ public final class BeamTraining {
             this.sectors = sectors;
             this.orientation = orientation;
             this.power = power;
-            beam = NONE;
+            present = NONE;
             clearTable();
         }
 
@@ -519,7 +519,7 @@ public final class BeamTraining {
             sectors = other.sectors;
             orientation = other.orientation;
             power = other.power;
-            beam = other.beam;
+            present = other.present;
             for (int k = 0; k < MAX_SECTORS; k++) {
                 table[k] = other.table[k];
             }
@@ -576,7 +576,7 @@ public final class BeamTraining {
 
         int pointing(int beam) {
             int sectorDirection = sectors > 0 ? 64 * sectorOf(beam) / sectors : 0;
-            return orientation + sectorDirection + offsetOf(beam) & 63;
+            return (orientation + sectorDirection + offsetOf(beam)) & 63;
         }
 
         int gainAt(int beam, int angle) {
@@ -601,7 +601,7 @@ public final class BeamTraining {
         }
 
         long hash(long start, int entries) {
-            long h = mix(mix(mix(mix(start, sectors), orientation), power), beam);
+            long h = mix(mix(mix(mix(start, sectors), orientation), power), present);
             for (int k = 0; k < entries; k++) {
                 h = mix(h, entry(k));
             }
@@ -687,7 +687,7 @@ public final class BeamTraining {
 
         long hash(long start) {
             long h = start;
-            for (int b = 0; has(b); b++) {
+            for (int b = 0; b < count && b < MAX_BACKUPS; b++) {
                 h = mix(mix(mix(h, beams0[b]), beams1[b]), qualities[b]);
             }
             return h;
@@ -868,7 +868,7 @@ public final class BeamTraining {
             int pointing0 = first.pointing(beam0);
             int pointing1 = second.pointing(beam1);
             float sum = 0.0f;
-            for (int p = 0; hasPath(p); p++) {
+            for (int p = 0; p < pathCount && p < MAX_PATHS; p++) {
                 Path path = paths[p];
                 int gain0 = first.gainAt(beam0, Radio.angle(pointing0, path.at0));
                 int gain1 = second.gainAt(beam1, Radio.angle(pointing1, path.at1));
@@ -933,11 +933,11 @@ public final class BeamTraining {
             if (bestOfResponder == NONE) {
                 return endSweep(initiator, 2);
             }
-            station(initiator).beam = bestOfInitiator;
+            station(initiator).present = bestOfInitiator;
             if (transmit(initiator, bestOfInitiator, OMNI, FEEDBACK_TIME) == NONE) {
                 return endSweep(initiator, 3);
             }
-            station(responder).beam = bestOfResponder;
+            station(responder).present = bestOfResponder;
             if (transmit(responder, bestOfResponder, OMNI, FEEDBACK_TIME) == NONE) {
                 return endSweep(initiator, 4);
             }
@@ -975,30 +975,30 @@ public final class BeamTraining {
         void refineBeam(int number) {
             Station refined = station(number);
             Station other = station(1 - number);
-            int sector = refined.sectorOf(refined.beam);
-            int best = refined.beam;
-            int bestMeasured = transmit(number, refined.beam, other.beam, TEST_TIME);
+            int sector = refined.sectorOf(refined.present);
+            int best = refined.present;
+            int bestMeasured = transmit(number, refined.present, other.present, TEST_TIME);
             // With two sectors the one below is also the one above: it is not sent again.
             int lastStep = refined.sectors == 2 ? 0 : 1;
             for (int step = -1; step <= lastStep; step++) {
                 int near = refined.sectorBeside(sector, step);
                 for (int offset = -2; offset <= 2; offset++) {
                     int narrow = refined.narrowBeam(near, offset);
-                    int measured = transmit(number, narrow, other.beam, TEST_TIME);
+                    int measured = transmit(number, narrow, other.present, TEST_TIME);
                     if (measured > bestMeasured) {
                         bestMeasured = measured;
                         best = narrow;
                     }
                 }
             }
-            if (bestMeasured != NONE && transmit(1 - number, other.beam, refined.beam, FEEDBACK_TIME) != NONE) {
-                refined.beam = best;
+            if (bestMeasured != NONE && transmit(1 - number, other.present, refined.present, FEEDBACK_TIME) != NONE) {
+                refined.present = best;
             }
         }
 
         void passInterval() {
             interval++;
-            for (int p = 0; hasPath(p); p++) {
+            for (int p = 0; p < pathCount && p < MAX_PATHS; p++) {
                 paths[p].drift();
             }
             if (up && tracking) {
@@ -1015,22 +1015,22 @@ public final class BeamTraining {
 
         private void trackBeam(int number) {
             Station tracked = station(number);
-            int otherBeam = station(1 - number).beam;
-            int lower = tracked.neighbourOf(tracked.beam, -1);
-            int upper = tracked.neighbourOf(tracked.beam, 1);
-            int present = transmit(number, tracked.beam, otherBeam, DATA_TIME);
+            int otherBeam = station(1 - number).present;
+            int lower = tracked.neighbourOf(tracked.present, -1);
+            int upper = tracked.neighbourOf(tracked.present, 1);
+            int present = transmit(number, tracked.present, otherBeam, DATA_TIME);
             int fromLower = transmit(number, lower, otherBeam, DATA_TIME);
             int fromUpper = transmit(number, upper, otherBeam, DATA_TIME);
             int better = fromUpper > fromLower ? fromUpper : fromLower;
             if (better != NONE && (present == NONE || better >= present + hysteresis)) {
-                tracked.beam = fromUpper > fromLower ? upper : lower;
+                tracked.present = fromUpper > fromLower ? upper : lower;
                 events.add(BEAM_TRACKED, number, interval);
             }
         }
 
         private void exchangeData() {
-            boolean heardBy1 = transmit(0, first.beam, second.beam, DATA_TIME) != NONE;
-            boolean heardBy0 = transmit(1, second.beam, first.beam, DATA_TIME) != NONE;
+            boolean heardBy1 = transmit(0, first.present, second.present, DATA_TIME) != NONE;
+            boolean heardBy0 = transmit(1, second.present, first.present, DATA_TIME) != NONE;
             failures = heardBy1 && heardBy0 ? 0 : failures + 1;
             if (failures >= patience) {
                 failures = 0;
@@ -1039,10 +1039,10 @@ public final class BeamTraining {
         }
 
         private void switchToBackup() {
-            for (int b = 0; backups.has(b); b++) {
+            for (int b = 0; b < backups.count && b < MAX_BACKUPS; b++) {
                 if (transmit(0, backups.beams0[b], backups.beams1[b], TEST_TIME) != NONE) {
-                    first.beam = backups.beams0[b];
-                    second.beam = backups.beams1[b];
+                    first.present = backups.beams0[b];
+                    second.present = backups.beams1[b];
                     backups.remove(b);
                     events.add(BACKUP_TAKEN, b, interval);
                     return;
@@ -1056,7 +1056,7 @@ public final class BeamTraining {
             long h = mix(mix(mix(mix(mix(mix(17, bit(up)), failures), interval), frames), time), x);
             h = first.hash(h, second.sectors);
             h = second.hash(h, first.sectors);
-            for (int p = 0; hasPath(p); p++) {
+            for (int p = 0; p < pathCount && p < MAX_PATHS; p++) {
                 h = paths[p].hash(h);
             }
             h = events.hash(backups.hash(h));
@@ -1118,16 +1118,16 @@ public final class BeamTraining {
 
         private static boolean isApart(State state, int i, int j, int separation) {
             Backups backups = state.backups;
-            boolean apart = isApart(state.first, i, state.first.beam, separation)
-                    && isApart(state.second, j, state.second.beam, separation);
-            for (int b = 0; apart && backups.has(b); b++) {
-                apart = isApart(state.first, i, backups.beams0[b], separation)
-                        && isApart(state.second, j, backups.beams1[b], separation);
+            boolean apart = isFar(state.first, i, state.first.present, separation)
+                    && isFar(state.second, j, state.second.present, separation);
+            for (int b = 0; apart && b < backups.count && b < MAX_BACKUPS; b++) {
+                apart = isFar(state.first, i, backups.beams0[b], separation)
+                        && isFar(state.second, j, backups.beams1[b], separation);
             }
             return apart;
         }
 
-        private static boolean isApart(Station station, int beam, int taken, int separation) {
+        private static boolean isFar(Station station, int beam, int taken, int separation) {
             return taken == NONE || Radio.angle(station.pointing(beam), station.pointing(taken)) >= separation;
         }
     }

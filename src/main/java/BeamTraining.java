@@ -947,7 +947,6 @@ public final class BeamTraining {
         /** Sends a frame with each wide beam of a station; tells its best sector, NONE if none was heard. */
         private int sendSectors(int sender) {
             Station hearer = station(1 - sender);
-            hearer.clearTable();
             int best = NONE;
             int bestMeasured = NONE;
             for (int k = station(sender).sectors - 1; k >= 0; k--) {

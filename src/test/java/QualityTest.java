@@ -103,6 +103,18 @@ public final class QualityTest {
         due("shortfall() of a narrow beam", x.shortfall(), -12);
         x.select(1, 8 + 25 + 2);
         due("shortfall() of both", x.shortfall(), -24);
+        x.setStation(0, 16, 0, 40);
+        x.select(0, 14);
+        due("shortfall() of the opposite sector", x.shortfall(), 76 - 12);
+        x.select(0, 2);
+        x.select(1, 5);
+        due("shortfall() of the best of more sectors", x.shortfall(), 0);
+        x.setStation(0, 16, 12, 40);
+        x.select(0, 15);
+        due("shortfall() of the best sector 15", x.shortfall(), 0);
+        x.setStation(0, 8, 0, 40);
+        x.select(0, 15);
+        x.select(1, 35);
         x.setStation(1, 8, 0, 90);
         due("shortfall() after setStation", x.shortfall(), NONE);
         x.select(1, 5);

@@ -65,6 +65,10 @@ public final class StateTest {
             due("gain(1, 10, " + d + ")", x.gain(1, 10, d), narrow[d]);
             due("gain(1, 10, -" + d + ")", x.gain(1, 10, (64 - d) % 64), narrow[d]);
         }
+        due("gain(0, 8, 1)", x.gain(0, 8, 1), 21);
+        due("gain(0, 8, 62)", x.gain(0, 8, 62), 48);
+        due("gain(0, 7, 62)", x.gain(0, 7, 62), 0);
+        due("gain(0, 4, 63)", x.gain(0, 4, 63), -40);
         due("gain(0, 0, 32)", x.gain(0, 0, 32), -40);
         due("gain(0, 10, 32)", x.gain(0, 10, 32), -40);
         due("gain(0, -1, 32)", x.gain(0, -1, 32), 0);
@@ -171,6 +175,15 @@ public final class StateTest {
         due("as it was in the survey", x.backupQuality(0), 72);
         due("sweep(0)", x.sweep(1), 0);
         due("a sweep leaves the backups", x.backupCount(), 2);
+        due("survey(1) that hears nothing more", x.survey(1) >= 0 ? 1 : 0, 1);
+        x.undo();
+        due("undo() of the second survey", x.backupCount(), 2);
+        due("backupBeam(0, 0)", x.backupBeam(0, 0), 1);
+        due("backupBeam(0, 1)", x.backupBeam(0, 1), 0);
+        due("backupBeam(1, 0)", x.backupBeam(1, 0), 5);
+        due("backupBeam(1, 1)", x.backupBeam(1, 1), 4);
+        due("backupQuality(0)", x.backupQuality(0), 72);
+        due("backupQuality(1)", x.backupQuality(1), 62);
         x.undo();
         x.undo();
         x.undo();
@@ -217,6 +230,10 @@ public final class StateTest {
         x.undo();
         x.undo();
         due("undo() brings the events back", x.eventKind(0), 1);
+        due("eventValue(0)", x.eventValue(0), 1);
+        due("eventKind(1)", x.eventKind(1), 5);
+        due("eventValue(1)", x.eventValue(1), 1);
+        due("eventInterval(1)", x.eventInterval(1), 20);
         due("eventInterval(19)", x.eventInterval(19), 2);
     }
 

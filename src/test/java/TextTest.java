@@ -87,6 +87,13 @@ public final class TextTest {
         fault("path 1 2 3 drif 1 1", 11);
         fault("paths 1 2 3", 0);
         fault("pat h 1 2 3", 0);
+        fault("pathz 1 2 3", 0);
+        fault("patha 1 2 3", 0);
+        fault("path`1 2 3", 4);
+        fault("path{1 2 3", 4);
+        fault("path/1 2 3", 4);
+        fault("path:1 2 3", 4);
+        fault("path 9 0 9999", 9);
         fault("Path 1 2 3", 0);
         fault("path 1,2,3", 6);
         fault("path\t1 2 3", 4);
@@ -109,6 +116,8 @@ public final class TextTest {
         fault("path 1 2 3 drift 4 0", 17);
         fault("path 1 2 3 drift 0 -4", 20);
         fault("path 1 2 3 drift - 4 0", 19);
+        fault("path 1 2 3 drift -4 0", 18);
+        fault("path 1 2 3 drift 3 4", 19);
         fault("station 2 8 0 0", 8);
         fault("station 1 1 0 0", 10);
         fault("station 1 17 0 0", 10);
@@ -142,6 +151,7 @@ public final class TextTest {
         due("drift of path 0 at station 0", x.pathDirection(0, 0), 3);
         due("drift of path 0 at station 1", x.pathDirection(0, 1), 62);
         due("path 1 stays", x.pathDirection(1, 0), 4);
+        due("path 1 stays at station 1", x.pathDirection(1, 1), 5);
         long before = x.digest();
         typeInto(x, "threshold -7 ; fade 9;patience 5");
         due("load() without paths", x.load(), 0);
@@ -181,6 +191,51 @@ public final class TextTest {
         due("no extra loss is left", x.setBlock(0, 0), 0);
     }
 
+    /** Neither an outage nor a text that was read before may shine through a load. */
+    private static void loadAfterOtherTrials() {
+        BeamTraining x = new BeamTraining();
+        for (int path = 0; path < 3; path++) x.addPath(32 * (path & 1), 32 * (path & 1), 40);
+        x.setStation(0, 5, 0, 50);
+        x.setStation(1, 6, 0, 60);
+        x.setThreshold(-100);
+        x.setFade(1, 5);
+        x.setTracking(true, 7);
+        x.setRecovery(9, true);
+        x.sweep(0);
+        x.survey(20);
+        for (int path = 0; path < 3; path++) x.setBlock(path, 200);
+        due("outage(5)", x.outage(5), NONE);
+        typeInto(x, "patience 2");
+        due("load() after an outage", x.load(), 0);
+        due("all as at first", x.digest(), new BeamTraining().digest());
+        typeInto(x, "path 1 2 3 drift 1 1;station 1 9 9 9;threshold 9;fade 9;patience 9;fade x");
+        due("textFault()", x.textFault(), 72);
+        typeInto(x, "path 1 2 3");
+        due("textFault()", x.textFault(), NONE);
+        due("textFault() loads nothing", x.pathCount(), 0);
+        due("load() after a fault", x.load(), 1);
+        BeamTraining fresh = new BeamTraining();
+        fresh.addPath(1, 2, 3);
+        due("one path and no more", x.digest(), fresh.digest());
+    }
+
+    private static void fullText() {
+        StringBuilder text = new StringBuilder("fade 7");
+        while (text.length() < 120) text.insert(0, ' ');
+        BeamTraining x = typed(text.toString());
+        due("textFault() of a full text", x.textFault(), NONE);
+        due("load() of a full text", x.load(), 0);
+        due("setFade(0, 1)", x.setFade(0, 1), 7);
+        text.setLength(119);
+        typeInto(x, text + ";");
+        due("textFault()", x.textFault(), 119);
+        typeInto(x, "fade 12");
+        x.clearText();
+        typeInto(x, "fade 1");
+        due("what was cleared is not read", x.load(), 0);
+        due("setFade(0, 1)", x.setFade(0, 1), 1);
+    }
+
     private static void repeatedItems() {
         BeamTraining x = typed("threshold 5;threshold -6;station 0 3 1 1;station 0 5 2 99;patience 9;patience 3;fade 4;fade 8");
         due("load()", x.load(), 0);
@@ -198,6 +253,8 @@ public final class TextTest {
         faultsOfRange();
         loading();
         loadForgetsSettings();
+        loadAfterOtherTrials();
+        fullText();
         repeatedItems();
         System.out.println(wrong == 0 ? "all answers are as due" : wrong + " answers are not as due");
         if (wrong != 0) System.exit(1);

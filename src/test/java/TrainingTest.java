@@ -440,6 +440,10 @@ public final class TrainingTest {
         trackedTo(63, 10, 3, 9);
         trackedTo(0, 10, 0, 10);
         trackedTo(6, 12, 0, 13);
+        trackedTo(1, 12, 0, 11);
+        trackedTo(63, 8, 0, 9);
+        trackedTo(2, 11, 0, 12);
+        trackedTo(62, 9, 0, 8);
         trackedTo(2, 13, 0, 12);
         trackedTo(62, 47, 0, 8);
         trackedTo(58, 8, 0, 47);
@@ -467,6 +471,31 @@ public final class TrainingTest {
         x.setTracking(false, 0);
         due("pass(1) without tracking", x.pass(1), 1);
         due("beam(0)", x.beam(0), 11);
+    }
+
+    /** Station 1 is loud and station 0 is not: each frame has the power of its sender. */
+    private static void powersOfBothSenders() {
+        BeamTraining x = onePath(40);
+        x.setStation(1, 8, 0, 60);
+        due("sweep(0)", x.sweep(0), 0);
+        x.setRecovery(1, false);
+        x.setThreshold(80);
+        due("pass(1) with the frame of station 1 alone", x.pass(1), 0);
+        x.undo();
+        x.setThreshold(72);
+        due("pass(1) with both", x.pass(1), 1);
+        x.setThreshold(80);
+        x.setTracking(true, 0);
+        x.setDrift(0, 1, 1);
+        x.select(0, 10);
+        x.select(1, 10);
+        due("pass(1)", x.pass(1), 1);
+        due("beam(0)", x.beam(0), 11);
+        due("beam(1)", x.beam(1), 11);
+        x.setThreshold(97);
+        due("pass(1)", x.pass(1), 0);
+        due("beam(0) was not heard", x.beam(0), 11);
+        due("beam(1) was heard", x.beam(1), 12);
     }
 
     private static void trackingFromSilence() {
@@ -513,6 +542,7 @@ public final class TrainingTest {
         backupBeforeMoves();
         tracking();
         trackingOfStation1();
+        powersOfBothSenders();
         trackingFromSilence();
         lowerOfEqualNeighbours();
         System.out.println(wrong == 0 ? "all answers are as due" : wrong + " answers are not as due");

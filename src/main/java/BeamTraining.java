@@ -430,6 +430,9 @@ public final class BeamTraining {
             saved[saved.length - 1] = oldest;
             savedCount = saved.length - 1;
         }
+        if (savedCount < 0) {
+            return;
+        }
         saved[savedCount].copyFrom(now);
         savedCount++;
     }
@@ -504,7 +507,6 @@ public final class BeamTraining {
         final int[] table = new int[MAX_SECTORS];
 
         Station() {
-            setUp(8, 0, 40);
         }
 
         void setUp(int sectors, int orientation, int power) {
@@ -725,6 +727,9 @@ public final class BeamTraining {
         void add(int kind, int value, int interval) {
             if (count >= MAX_EVENTS) {
                 forgetOldest();
+            }
+            if (count < 0) {
+                return;
             }
             kinds[count] = kind;
             values[count] = value;

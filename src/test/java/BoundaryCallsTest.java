@@ -487,12 +487,11 @@ public final class BoundaryCallsTest extends Sentences {
         BeamTraining last = new BeamTraining();
         last.setStation(0, 16, 0, 90);
         last.setStation(1, 16, 0, 10);
-        last.addPath(60, 60, 40);
+        last.addPath(60, 52, 40);
         last.addPath(30, 20, 45);
         last.select(0, 15);
-        last.select(1, 14);
-        due("shortfall() beside the last pair", last.shortfall(), last.quality(0, 15, 15) - last.quality(0, 15, 14));
-        due("it is that of 36 and 20", last.shortfall(), 16);
+        last.select(1, 12);
+        due("shortfall() beside the pair (15, 13): 36 less 20", last.shortfall(), 16);
     }
 
     private static void noShortfall() {

@@ -51,6 +51,23 @@ public final class FaceTest {
         due("the class's modifiers", BeamTraining.class.getModifiers(), Modifier.PUBLIC | Modifier.FINAL);
     }
 
+    /** No private method bears the name of a method of the face; the classes inside keep to the language's limits. */
+    private static void privateNames() {
+        TreeSet<String> names = new TreeSet<>();
+        for (String method : FACE) names.add(method.replaceFirst("^\\w+ ", "").replaceFirst("\\(.*", ""));
+        for (Method method : BeamTraining.class.getDeclaredMethods()) {
+            if (Modifier.isPrivate(method.getModifiers())) due("the name " + method.getName(), names.contains(method.getName()), false);
+        }
+        for (Class<?> inside : BeamTraining.class.getDeclaredClasses()) {
+            due(inside + " is public or protected", (inside.getModifiers() & (Modifier.PUBLIC | Modifier.PROTECTED)) != 0, false);
+            due(inside + " has more than 20 fields", inside.getDeclaredFields().length > 20, false);
+            for (Method method : inside.getDeclaredMethods()) {
+                due(method + " has more than 7 parameters", method.getParameterCount() > 7, false);
+            }
+        }
+        due("more than 12 classes inside", BeamTraining.class.getDeclaredClasses().length > 12, false);
+    }
+
     private static void constants() {
         due("OMNI", BeamTraining.OMNI, -1);
         due("NONE", BeamTraining.NONE, -100000);
@@ -97,6 +114,7 @@ public final class FaceTest {
 
     public static void main(String[] args) {
         methodsAndFields();
+        privateNames();
         constants();
         newObject();
         System.out.println(wrong == 0 ? "all answers are as due" : wrong + " answers are not as due");

@@ -5,35 +5,16 @@ import java.util.function.Supplier;
 /** Boundaries of training, and of what is asked: the promises 16 to 20, and 22 to 46. */
 public final class BoundaryCallsTest extends Sentences {
 
-    private static BeamTraining onePath() {
-        BeamTraining x = new BeamTraining();
-        x.addPath(0, 0, 40);
-        return x;
-    }
-
-    private static BeamTraining onePathUp() {
-        BeamTraining x = onePath();
-        x.sweep(0);
-        return x;
-    }
-
     // ---- promises 16 to 20
 
     private static void sweepResults() {
-        int[] frames = {8, 16, 17, 18};
         for (int result = 0; result <= 4; result++) {
-            int wanted = result;
-            int seed = seed(v -> {
-                for (int phase = 0; phase < 4; phase++) {
-                    if (fade(60, v, frames[phase]) > 36) return wanted == phase + 1;
-                }
-                return wanted == 0;
-            });
+            int seed = seedOfResult(result);
             for (int initiator = 0; initiator < 2; initiator++) {
                 BeamTraining x = onePath();
                 x.setFade(60, seed);
                 due("sweep(" + initiator + ")", x.sweep(initiator), result);
-                due("frames()", x.frames(), result == 0 ? 18 : frames[result - 1]);
+                due("frames()", x.frames(), result == 0 ? 18 : BEST_FRAMES[result - 1]);
                 due("isUp()", x.isUp(), result == 0 ? 1 : 0);
             }
         }

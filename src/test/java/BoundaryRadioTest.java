@@ -542,10 +542,12 @@ public final class BoundaryRadioTest extends Sentences {
         due("time() of backups that are not heard", x.time(), 751 + 256 + 4 + 4 * backups);
     }
 
-    public static void main(String[] args) {
+    private static void whatItIsSentences() {
         section("What it is");
         test("An object is used for at most 512 calls after it has been made", BoundaryRadioTest::fiveHundredAndTwelveCalls);
+    }
 
+    private static void directionsAndLevelsSentences() {
         section("Directions and levels");
         test("A direction is an int from 0 to 63", BoundaryRadioTest::directionsFrom0To63);
         test("sums and differences of directions are taken modulo 64", BoundaryRadioTest::directionsGoRound);
@@ -554,7 +556,9 @@ public final class BoundaryRadioTest extends Sentences {
         test("mod and div are those of the floor division (so q mod 12 is 0 to 11)", BoundaryRadioTest::floorDivisionOfLevels);
         test("C is 1.0f, 1.0594631f, 1.122462f, 1.1892071f, 1.2599211f, 1.3348398f, 1.4142135f, 1.4983071f, 1.587401f, "
             + "1.6817929f, 1.7817974f, 1.8877486f.", BoundaryRadioTest::twelveSteps);
+    }
 
+    private static void stationsAndBeamsSentences() {
         section("Stations and beams");
         test("There are two stations, 0 and 1.", BoundaryRadioTest::twoStations);
         test("A station has 2 to 16 sectors (8 at first)", BoundaryRadioTest::twoToSixteenSectors);
@@ -568,7 +572,9 @@ public final class BoundaryRadioTest extends Sentences {
         test("is 0 for OMNI", BoundaryRadioTest::gainsOfOmni);
         test("36 - d * d, but at least -40, for a wide beam", BoundaryRadioTest::gainsOfWideBeams);
         test("48 - 3 * d * d, but at least -40, for a narrow beam", BoundaryRadioTest::gainsOfNarrowBeams);
+    }
 
+    private static void pathsSentences() {
         section("Paths");
         test("at most 8 paths, numbered from 0 (none at first)", BoundaryRadioTest::eightPaths);
         test("a loss (0 to 300)", BoundaryRadioTest::lossFrom0To300);
@@ -580,7 +586,9 @@ public final class BoundaryRadioTest extends Sentences {
         test("The quality is the greatest int q for which POWER(q) is not greater than the received power",
             BoundaryRadioTest::greatestQualityNotAbove);
         test("it is NONE if there are no paths", BoundaryRadioTest::noQualityWithoutPaths);
+    }
 
+    private static void framesSentences() {
         section("Frames");
         test("There is an int x (1 at first)", BoundaryRadioTest::xAtFirst);
         test("a fade amplitude A (0 to 60; 0 at first)", BoundaryRadioTest::fadeAmplitudes);
@@ -591,6 +599,14 @@ public final class BoundaryRadioTest extends Sentences {
         test("its measured quality is at least the threshold (-200 to 200; 0 at first)", BoundaryRadioTest::heardAtTheThreshold);
         test("Each frame counts, and takes a time in microseconds: 16 for a sweep frame, 9 for a feedback or "
             + "acknowledgement frame, 4 for a test frame, 2 for a data frame.", BoundaryRadioTest::framesAndTheirTimes);
+    }
+
+    public static void main(String[] args) {
+        whatItIsSentences();
+        directionsAndLevelsSentences();
+        stationsAndBeamsSentences();
+        pathsSentences();
+        framesSentences();
         end();
     }
 }

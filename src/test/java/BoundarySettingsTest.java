@@ -374,7 +374,7 @@ public final class BoundarySettingsTest extends Sentences {
         undone("setStation", x -> x.setStation(1, 2, 3, 4));
     }
 
-    public static void main(String[] args) {
+    private static void promise6() {
         section("Promise 6: setStation");
         test("It has no present beam then; the link is down, both tables have no entries but NONE, and there are no backups.",
             BoundarySettingsTest::whatASetUpStationLoses);
@@ -386,7 +386,9 @@ public final class BoundarySettingsTest extends Sentences {
         test("Returns the previous number of sectors", BoundarySettingsTest::previousSectors);
         test("BAD_INDEX if there is no such station", () -> noSuchStation("setStation", (x, v) -> x.setStation(v, 8, 0, 40)));
         test("BAD_VALUE if another argument is out of range", BoundarySettingsTest::setStationOutOfRange);
+    }
 
+    private static void promise7() {
         section("Promise 7: rotate");
         test("Undoable.", () -> undone("rotate", x -> x.rotate(0, 63)));
         test("`station`: 0 or 1", () -> eachStation("rotate", (x, v) -> x.rotate(v, 63)));
@@ -394,7 +396,9 @@ public final class BoundarySettingsTest extends Sentences {
         test("Returns the new orientation", BoundarySettingsTest::rotatesFromEachEnd);
         test("BAD_INDEX if there is no such station", () -> noSuchStation("rotate", (x, v) -> x.rotate(v, 0)));
         test("BAD_VALUE if by is out of range", BoundarySettingsTest::rotateOutOfRange);
+    }
 
+    private static void promise8() {
         section("Promise 8: addPath");
         test("Adds a path without extra loss and drifts.", BoundarySettingsTest::withoutExtraLossAndDrifts);
         test("Undoable.", () -> undone("addPath", x -> x.addPath(63, 63, 300)));
@@ -404,14 +408,18 @@ public final class BoundarySettingsTest extends Sentences {
         test("Returns the number of the path", BoundarySettingsTest::numbersOfNewPaths);
         test("BAD_VALUE if an argument is out of range", BoundarySettingsTest::addPathErrors);
         test("FULL if there are 8 paths", BoundarySettingsTest::noRoomForANinthPath);
+    }
 
+    private static void promise9() {
         section("Promise 9: removePath");
         test("The numbers of the paths after it decrease by 1.", BoundarySettingsTest::numbersDecrease);
         test("Undoable.", () -> undone("removePath", x -> x.removePath(2)));
         test("`path`: number of the path", () -> eachPath("removePath", BeamTraining::removePath));
         test("Returns the number of paths that are left", BoundarySettingsTest::pathsThatAreLeft);
         test("BAD_INDEX if there is no such path", () -> noSuchPath("removePath", BeamTraining::removePath));
+    }
 
+    private static void promise10() {
         section("Promise 10: setDrift");
         test("Undoable.", () -> undone("setDrift", x -> x.setDrift(2, 3, -3)));
         test("`path`: number of the path", () -> eachPath("setDrift", (x, v) -> x.setDrift(v, 3, -3)));
@@ -420,7 +428,9 @@ public final class BoundarySettingsTest extends Sentences {
         test("Returns 1", BoundarySettingsTest::setDriftAnswers);
         test("BAD_INDEX if there is no such path", () -> noSuchPath("setDrift", (x, v) -> x.setDrift(v, 0, 0)));
         test("BAD_VALUE if a drift is out of range", BoundarySettingsTest::setDriftOutOfRange);
+    }
 
+    private static void promise11() {
         section("Promise 11: setBlock");
         test("Undoable.", () -> undone("setBlock", x -> x.setBlock(2, 200)));
         test("`path`: number of the path", () -> eachPath("setBlock", (x, v) -> x.setBlock(v, 200)));
@@ -428,33 +438,54 @@ public final class BoundarySettingsTest extends Sentences {
         test("Returns the previous extra loss", BoundarySettingsTest::previousExtraLoss);
         test("BAD_INDEX if there is no such path", () -> noSuchPath("setBlock", (x, v) -> x.setBlock(v, 0)));
         test("BAD_VALUE if extra is out of range", BoundarySettingsTest::setBlockOutOfRange);
+    }
 
+    private static void promise12() {
         section("Promise 12: setThreshold");
         test("Undoable.", () -> undone("setThreshold", x -> x.setThreshold(200)));
         test("`threshold`: -200 to 200", BoundarySettingsTest::setThresholdRange);
         test("Returns the previous threshold", BoundarySettingsTest::previousThreshold);
         test("BAD_VALUE if threshold is out of range", BoundarySettingsTest::setThresholdOutOfRange);
+    }
 
+    private static void promise13() {
         section("Promise 13: setFade");
         test("Undoable.", () -> undone("setFade", x -> x.setFade(60, MOST)));
         test("`amplitude`: 0 to 60", BoundarySettingsTest::setFadeAmplitude);
         test("`x`: any int", BoundarySettingsTest::setFadeX);
         test("Returns the previous fade amplitude", BoundarySettingsTest::previousAmplitude);
         test("BAD_VALUE if amplitude is out of range", BoundarySettingsTest::setFadeOutOfRange);
+    }
 
+    private static void promise14() {
         section("Promise 14: setTracking");
         test("Undoable.", () -> undone("setTracking", x -> x.setTracking(false, 39)));
         test("`on`: true to turn it on, false to turn it off", BoundarySettingsTest::setTrackingOnAndOff);
         test("`hysteresis`: 0 to 40", BoundarySettingsTest::setTrackingHysteresis);
         test("Returns 1 if it was on before, else 0", BoundarySettingsTest::trackingBefore);
         test("BAD_VALUE if hysteresis is out of range", BoundarySettingsTest::setTrackingOutOfRange);
+    }
 
+    private static void promise15() {
         section("Promise 15: setRecovery");
         test("Undoable.", () -> undone("setRecovery", x -> x.setRecovery(9, false)));
         test("`patience`: 1 to 9", BoundarySettingsTest::setRecoveryPatience);
         test("`automatic`: true if there are automatic sweeps", BoundarySettingsTest::setRecoveryAutomatic);
         test("Returns the previous patience", BoundarySettingsTest::previousPatience);
         test("BAD_VALUE if patience is out of range", BoundarySettingsTest::setRecoveryOutOfRange);
+    }
+
+    public static void main(String[] args) {
+        promise6();
+        promise7();
+        promise8();
+        promise9();
+        promise10();
+        promise11();
+        promise12();
+        promise13();
+        promise14();
+        promise15();
         end();
     }
 }

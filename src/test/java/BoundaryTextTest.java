@@ -734,7 +734,7 @@ public final class BoundaryTextTest extends Sentences {
         }, BeamTraining::undo);
     }
 
-    public static void main(String[] args) {
+    private static void textSentences() {
         section("Text");
         test("a text of at most 120 bytes", BoundaryTextTest::atMost120Bytes);
         test("scenario = item { \";\" item }", BoundaryTextTest::itemsAndSemicolons);
@@ -757,7 +757,9 @@ public final class BoundaryTextTest extends Sentences {
         test("for a signed number out of its range the number, not the sign", BoundaryTextTest::signedNumberOutOfRange);
         test("for a ninth path the word path", BoundaryTextTest::wordOfTheNinthPath);
         test("or the length of the text, if it ends too early (also if it is empty)", BoundaryTextTest::textThatEndsTooEarly);
+    }
 
+    private static void undoErrorsSentences() {
         section("Undo, errors");
         test("save the whole state, except the text", BoundaryTextTest::textIsNotSaved);
         test("before each call that returns no error, even if it changes nothing", BoundaryTextTest::savedEvenIfNothingChanges);
@@ -771,35 +773,58 @@ public final class BoundaryTextTest extends Sentences {
         test("NONE is returned only if no error applies", BoundaryTextTest::noneOnlyWithoutError);
         test("A call that returns an error changes nothing.", BoundaryTextTest::errorsChangeNothing);
         test("A beam that a station does not have is out of its range.", BoundaryTextTest::beamsThatAStationDoesNotHave);
+    }
 
+    private static void promise1() {
         section("Promise 1: A new object");
         test("without paths, beams, backups and events", BoundaryTextTest::nothingInANewObject);
         test("with an empty text", BoundaryTextTest::emptyTextAtFirst);
         test("interval 0, time 0, no frames", BoundaryTextTest::countersAtFirst);
+    }
 
+    private static void promise2() {
         section("Promise 2: type");
         test("`code`: the byte, 0 to 255", BoundaryTextTest::codesOfBytes);
         test("BAD_VALUE if code is out of range", BoundaryTextTest::codesBesideBytes);
         test("Returns the length of the text", BoundaryTextTest::lengthOfTheText);
         test("FULL if the text has 120 bytes", BoundaryTextTest::noRoomForByte121);
+    }
 
+    private static void promise3() {
         section("Promise 3: clearText");
         test("Returns the length that it had.", BoundaryTextTest::lengthsOfClearedTexts);
+    }
 
+    private static void promise4() {
         section("Promise 4: textFault");
         test("Returns its fault; NONE if it has none.", BoundaryTextTest::noFault);
+    }
 
+    private static void promise5() {
         section("Promise 5: load");
         test("Makes the whole state, except the text and the saved states, as at first", BoundaryTextTest::loadMakesAllAsAtFirst);
         test("then applies the items of the text in their order", BoundaryTextTest::itemsInTheirOrder);
         test("Undoable.", BoundaryTextTest::loadIsUndone);
         test("Returns the number of paths", BoundaryTextTest::numberOfLoadedPaths);
         test("BAD_STATE if the text has a fault", BoundaryTextTest::loadOfAFault);
+    }
 
+    private static void promise21() {
         section("Promise 21: undo");
         test("Undoes the latest call that can be undone: the state becomes as before it.", BoundaryTextTest::latestCallIsUndone);
         test("Returns the number of saved states that are left", BoundaryTextTest::savedStatesThatAreLeft);
         test("BAD_STATE if there is none.", BoundaryTextTest::noSavedState);
+    }
+
+    public static void main(String[] args) {
+        textSentences();
+        undoErrorsSentences();
+        promise1();
+        promise2();
+        promise3();
+        promise4();
+        promise5();
+        promise21();
         end();
     }
 }

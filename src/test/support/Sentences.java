@@ -203,6 +203,27 @@ abstract class Sentences {
         return x;
     }
 
+    /** One path at 0 and 0, whose best sectors are heard with the quality 36; a frame is heard if its fade is at most 36. */
+    static BeamTraining onePath() {
+        BeamTraining x = new BeamTraining();
+        x.addPath(0, 0, 40);
+        return x;
+    }
+
+    /** A link over one path, with the present beams 0 and 0. */
+    static BeamTraining onePathUp() {
+        BeamTraining x = onePath();
+        x.sweep(0);
+        return x;
+    }
+
+    /** Such a link, which fades from now on. */
+    static BeamTraining fading(int amplitude, int seed) {
+        BeamTraining x = onePathUp();
+        x.setFade(amplitude, seed);
+        return x;
+    }
+
     /** All that an object can be asked, as text; it is used up by that, for undo() and load() are asked too. */
     static String picture(BeamTraining x) {
         StringBuilder all = new StringBuilder();
@@ -265,6 +286,19 @@ abstract class Sentences {
         for (int x = 0; x < 1000000; x++) if (so.test(x)) return x;
         tell("no x was found");
         return 0;
+    }
+
+    /** The frames of the best sectors in the four phases of a sweep over one path, counted from 1. */
+    static final int[] BEST_FRAMES = {8, 16, 17, 18};
+
+    /** The first x with which a sweep over one path, with the amplitude 60, has this result. */
+    static int seedOfResult(int result) {
+        return seed(v -> {
+            for (int phase = 1; phase <= 4; phase++) {
+                if (fade(60, v, BEST_FRAMES[phase - 1]) > 36) return result == phase;
+            }
+            return result == 0;
+        });
     }
 
     private static final float[] C = {1.0f, 1.0594631f, 1.122462f, 1.1892071f, 1.2599211f, 1.3348398f, 1.4142135f,

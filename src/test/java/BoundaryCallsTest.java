@@ -473,6 +473,10 @@ public final class BoundaryCallsTest extends Sentences {
         last.select(0, 15);
         last.select(1, 12);
         due("shortfall() beside the pair (15, 13): 36 less 20", last.shortfall(), 16);
+        last.removePath(0);
+        last.addPath(13, 49, 40);
+        last.select(0, 4);
+        due("shortfall() beside the pair (3, 12): 35 less 27", last.shortfall(), 8);
     }
 
     private static void noShortfall() {

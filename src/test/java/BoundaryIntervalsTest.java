@@ -325,6 +325,16 @@ public final class BoundaryIntervalsTest extends Sentences {
             due("failures() then", x.failures(), 0);
             event(x, 0, 2, 0, patience);
         }
+        for (int patience = 1; patience <= 9; patience++) {
+            BeamTraining x = onePathUp();
+            x.setRecovery(9, false);
+            x.setThreshold(73);
+            x.pass(7);
+            x.setRecovery(patience, false);
+            due("failures() beside the patience " + patience, x.failures(), 7);
+            due("pass(1) with the eighth failure", x.pass(1), patience <= 8 ? 0 : 1);
+            due("failures() then", x.failures(), patience <= 8 ? 0 : 8);
+        }
         BeamTraining first = onePathUp();
         first.setThreshold(73);
         due("pass(1)", first.pass(1), 1);

@@ -696,9 +696,9 @@ public final class BoundaryTextTest extends Sentences {
         long before = x.digest();
         event(x, 19, 5, 1, 20);
         x.addPath(0, 0, 40);
-        x.sweep(1);
+        x.sweep(0);
         x.outage(100);
-        event(x, 0, 1, 1, 39);
+        event(x, 0, 1, 0, 39);
         event(x, 19, 5, 1, 21);
         x.undo();
         x.undo();

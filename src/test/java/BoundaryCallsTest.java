@@ -428,6 +428,38 @@ public final class BoundaryCallsTest extends Sentences {
         due("a greater quality before the lowest beam", x.bestPair(), 16 + 7);
     }
 
+    /**
+     * Seven paths that the sectors 1 hear, and one that the sectors 0 hear. The sum of the seven is so near to the power
+     * of a level that the rounding of floats puts it above this level with one transmit power, below it with the other.
+     */
+    private static BeamTraining nearlyEqualPairs(int power0, int power1) {
+        BeamTraining x = new BeamTraining();
+        x.setStation(0, 2, 0, power0);
+        x.setStation(1, 2, 0, power1);
+        for (int loss : new int[] {47, 47, 46, 47, 49, 64, 54}) x.addPath(32, 32, loss);
+        x.addPath(0, 0, 17);
+        return x;
+    }
+
+    private static void bestPairFromStation0() {
+        BeamTraining weak = nearlyEqualPairs(0, 8);
+        due("quality(0, 0, 0) with power 0", weak.quality(0, 0, 0), 55);
+        due("quality(0, 1, 1) with power 0", weak.quality(0, 1, 1), 56);
+        due("quality(1, 0, 0) with power 8", weak.quality(1, 0, 0), 63);
+        due("quality(1, 1, 1) with power 8", weak.quality(1, 1, 1), 63);
+        due("bestPair() with power 0 of station 0", weak.bestPair(), 16 + 1);
+        due("bestPair() with power 8 of station 0", nearlyEqualPairs(8, 0).bestPair(), 0);
+    }
+
+    private static void shortfallFromStation0() {
+        for (int power = 0; power <= 8; power += 8) {
+            BeamTraining x = nearlyEqualPairs(power, 8 - power);
+            x.select(0, 0);
+            x.select(1, 0);
+            due("shortfall() of the pair (0, 0)", x.shortfall(), power == 0 ? 56 - 55 : 63 - 63);
+        }
+    }
+
     private static void numbersOfPairs() {
         for (int[] sectors : new int[][] {{16, 16}, {2, 16}, {16, 2}}) {
             for (int i = 0; i < sectors[0]; i++) {
@@ -545,6 +577,27 @@ public final class BoundaryCallsTest extends Sentences {
         for (int n = 0; n < 2; n++) for (int j = 0; j < 3; j++) sum += power(40 - 40 + wide(angle(32 + 64 * j / 3, 0)));
         float part = power(40 - 40 + wide(angle(32 + 42, 0)));
         due("a share that is cut off", third.share(0, 2), (int) (part / sum * 1000.0f));
+    }
+
+    private static BeamTraining twoPaths(int[] one, int[] other) {
+        BeamTraining x = stations(2, 2, 40);
+        x.removePath(0);
+        x.addPath(one[0], one[1], one[2]);
+        x.addPath(other[0], other[1], other[2]);
+        return x;
+    }
+
+    /** Where a factor that differs by its last bit, or a product that is no float, would tell another number. */
+    private static void nearlyWholeThousandths() {
+        BeamTraining x = twoPaths(new int[] {25, 43, 77}, new int[] {52, 39, 77});
+        due("shareBits, just below a quarter", x.shareBits(0, 1), Float.floatToIntBits(0.25f) - 1);
+        due("share just below a quarter", x.share(0, 1), 249);
+        x = twoPaths(new int[] {46, 63, 18}, new int[] {29, 0, 3});
+        due("share just below 0.96", x.share(1, 0), 959);
+        x = twoPaths(new int[] {41, 5, 48}, new int[] {30, 17, 71});
+        due("a share whose product is rounded up to 241", x.share(1, 1), 241);
+        x = twoPaths(new int[] {23, 60, 81}, new int[] {57, 32, 2});
+        due("a share whose product is rounded up to 815", x.share(0, 1), 815);
     }
 
     private static void noShareWithoutPaths() {
@@ -1042,12 +1095,15 @@ public final class BoundaryCallsTest extends Sentences {
         test("BAD_VALUE if a station has no such beam", BoundaryCallsTest::qualityOfNoBeam);
 
         section("Promise 34: bestPair");
+        test("with which the quality from station 0 to station 1 is greatest", BoundaryCallsTest::bestPairFromStation0);
         test("of several the one with the lowest beam of station 0, and then the lowest beam of station 1",
             BoundaryCallsTest::lowestOfBestPairs);
         test("Returns 16 * (beam of station 0) + (beam of station 1)", BoundaryCallsTest::numbersOfPairs);
         test("NONE if there are no paths", BoundaryCallsTest::noBestPair);
 
         section("Promise 35: shortfall");
+        test("its quality from station 0 to station 1 minus that of the present beams",
+            BoundaryCallsTest::shortfallFromStation0);
         test("It can be negative.", BoundaryCallsTest::negativeShortfalls);
         test("Returns the difference; NONE if there are no paths, or a station has no present beam.", BoundaryCallsTest::noShortfall);
 
@@ -1057,6 +1113,7 @@ public final class BoundaryCallsTest extends Sentences {
         test("`sector0`: a sector of station 0", () -> eachSector0("share", BeamTraining::share));
         test("`sector1`: a sector of station 1", () -> eachSector1("share", BeamTraining::share));
         test("Returns the share times 1000.0f, cast to int", BoundaryCallsTest::shareInThousandths);
+        test("times 1000.0f, cast to int", BoundaryCallsTest::nearlyWholeThousandths);
         test("NONE if there are no paths", BoundaryCallsTest::noShareWithoutPaths);
         test("BAD_INDEX if there is no such sector", () -> noSuchSector("share", BeamTraining::share));
 

@@ -561,6 +561,21 @@ public final class BoundaryTextTest extends Sentences {
         due("the first byte after that", x.type(97), 1);
     }
 
+    /** Whatever stood in the text before, a shorter one after clearText() is read as in a new object. */
+    private static void nothingOfClearedTexts() {
+        String whole = "station 1 9 12 40;path 10 20 30 drift -1 2;threshold -15;fade 6;patience 3;path 1 2 3";
+        for (String former : new String[] {whole, "1".repeat(120), "h".repeat(120), ";".repeat(120), " ".repeat(120)}) {
+            for (int length = 0; length <= whole.length(); length++) {
+                BeamTraining anew = typed(whole.substring(0, length));
+                BeamTraining x = typed(former);
+                typeInto(x, whole.substring(0, length));
+                due("textFault() of the first " + length + " bytes", x.textFault(), anew.textFault());
+                due("load() of the first " + length + " bytes", x.load(), anew.load());
+                due("digest() then", x.digest(), anew.digest());
+            }
+        }
+    }
+
     private static void lengthsOfClearedTexts() {
         BeamTraining x = new BeamTraining();
         due("clearText() of an empty text", x.clearText(), 0);
@@ -792,6 +807,7 @@ public final class BoundaryTextTest extends Sentences {
 
     private static void promise3() {
         section("Promise 3: clearText");
+        test("Empties the text.", BoundaryTextTest::nothingOfClearedTexts);
         test("Returns the length that it had.", BoundaryTextTest::lengthsOfClearedTexts);
     }
 
